@@ -354,22 +354,26 @@ public final class TeaSeats {
             return broken;
         }
 
-        int makeBow(int guest, int other) {
+        /** The error of a pair that is not two guests who are here; 0 if there is none. */
+        private int errorOfPair(int guest, int other) {
             if (!isHere(guest) || !isHere(other)) {
                 return NO_SUCH;
             }
-            if (guest == other) {
-                return BAD_VALUE;
+            return guest == other ? BAD_VALUE : 0;
+        }
+
+        int makeBow(int guest, int other) {
+            int error = errorOfPair(guest, other);
+            if (error < 0) {
+                return error;
             }
             return bows.pay(guest, other) ? bows.between(guest, other) : NOT_POSSIBLE;
         }
 
         int offerCup(int guest, int other) {
-            if (!isHere(guest) || !isHere(other)) {
-                return NO_SUCH;
-            }
-            if (guest == other) {
-                return BAD_VALUE;
+            int error = errorOfPair(guest, other);
+            if (error < 0) {
+                return error;
             }
             if (reasonToPassBy(other) != 0 || breathsSoFar + settings[SIP] > MOST_BREATHS) {
                 return NOT_POSSIBLE;
@@ -522,10 +526,8 @@ public final class TeaSeats {
         }
 
         int owedTo(int guest, int other) {
-            if (!isHere(guest) || !isHere(other)) {
-                return NO_SUCH;
-            }
-            return guest == other ? BAD_VALUE : bows.between(guest, other);
+            int error = errorOfPair(guest, other);
+            return error < 0 ? error : bows.between(guest, other);
         }
 
         int factOf(int guest, int what) {

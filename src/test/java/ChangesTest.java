@@ -150,6 +150,25 @@ public final class ChangesTest {
         CHECK.change(x, "leave(2)", () -> x.leave(2), 0);
         CHECK.due("bows that were lost", x.count(6), 5);
         CHECK.due("guests", x.count(1), 0);
+        // Of patience 1, so that there are sighs; nothing of all that is left to the next guest.
+        TeaSeats y = roomWith(1, 1);
+        y.offer(0, 1);
+        y.breathe(8);
+        y.word(1);
+        y.bow(1, 0);
+        y.breathe(1);
+        CHECK.due("sighs of 1", y.of(1, 4), 4);
+        CHECK.due("the silence of 1", y.of(1, 2), 1);
+        CHECK.change(y, "leave(0)", () -> y.leave(0), 0);
+        CHECK.due("the seat of 1", y.of(1, 0), 0);
+        CHECK.change(y, "leave(1)", () -> y.leave(1), 0);
+        y.guest(3);
+        y.guest(6);
+        int[] new1 = {1, 6, 0, 0, 0, 0, 0, 0, 0, 1};
+        for (int what = 0; what < new1.length; what++) {
+            CHECK.due("of(1, " + what + ") of the next guest", y.of(1, what), new1[what]);
+        }
+        CHECK.due("sighs so far", y.count(10), 9);
     }
 
     private static void promise5Word() {
