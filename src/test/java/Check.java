@@ -4,6 +4,7 @@ import java.util.function.IntSupplier;
 final class Check {
     private final String test;
     private int asked;
+    private int askedAhead;
     private int wrong;
 
     Check(String test) {
@@ -44,6 +45,15 @@ final class Check {
         // Slot 1 is this helper's own: it goes on from the state behind the call.
         seats.restore(1);
         same("what there is behind restore() of " + call, View.ofRoom(seats), behind);
+    }
+
+    /** From here on asked() counts anew. */
+    void begin() {
+        askedAhead = asked;
+    }
+
+    int asked() {
+        return asked - askedAhead;
     }
 
     void fail(String what) {
