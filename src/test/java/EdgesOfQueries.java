@@ -225,6 +225,8 @@ final class EdgesOfQueries {
         edges.unchanged("silent(0) of nine without silence", Rooms::ofNine, x -> x.silent(0), 9);
         edges.unchanged("silent(1) of nine without silence", Rooms::ofNine, x -> x.silent(1), 0);
         edges.unchanged("silent(0) of none", Rooms::empty, x -> x.silent(0), 0);
+        edges.unchanged("silent(0) of the least patience", () -> Rooms.of(1, 1), x -> x.silent(0), 2);
+        edges.unchanged("silent(1) of the least patience", () -> Rooms.breathed(Rooms.of(1, 1), 1), x -> x.silent(1), 2);
     }
 
     private void silentBelow0() {
@@ -297,6 +299,11 @@ final class EdgesOfQueries {
         TeaSeats z = Rooms.bowed(Rooms.offered(Rooms.of(30, 30), 1, 0, 1), 0, 1, 1);
         z.offer(0, 1);
         edges.due("set off of one pair", z.count(7), 2);
+        // 1 owes 0 one bow more: of the next two that 0 owes it is set off, and so on.
+        z.offer(1, 0);
+        edges.due("set off so far, of two pairs", z.count(7), 4);
+        z.offer(0, 1);
+        edges.due("set off so far, of three pairs", z.count(7), 6);
     }
 
     private void countOfWordsAndSighs() {
@@ -326,6 +333,11 @@ final class EdgesOfQueries {
         x.set(TeaSeats.CUPS, 1);
         edges.due("those who would be passed by for one cup", x.count(12), 14);
         edges.due("guests of nine", Rooms.ofNine().count(11), 511);
+        TeaSeats y = Rooms.of(1, 1);
+        y.set(TeaSeats.DEBT, 1);
+        y.round();
+        edges.due("guests of the least patience", y.count(11), 3);
+        edges.due("those of the least patience who would be passed by", y.count(12), 2);
         edges.due("nobody", Rooms.empty().count(11) + Rooms.empty().count(12), 0);
     }
 

@@ -409,6 +409,13 @@ final class EdgesOfTerms {
         edges.due("the seat of 2", y.of(2, 0), 2);
         edges.due("the seat of 1", y.of(1, 0), 1);
         edges.due("the seat of 0", y.of(0, 0), 0);
+        // 0, who has the lowest number, and the lowest patience, sits behind 1 and 2.
+        TeaSeats z = Rooms.breathed(Rooms.of(1, 1, 1), 1);
+        z.word(0);
+        edges.due("seatAnew()", z.seatAnew(), 3);
+        edges.due("leave(1)", z.leave(1), 0);
+        edges.due("the seat of 2", z.of(2, 0), 0);
+        edges.due("the seat of 0", z.of(0, 0), 1);
     }
 
     private void bowsAreLost() {
