@@ -74,7 +74,8 @@ final class EdgesOfChanges {
     }
 
     private void setAnswersThePrevious() {
-        edges.sentence("Promise 2", "`int set(int setting, int value)`: Changes a setting. This is a change. Returns the previous value;");
+        edges.sentence("Promise 2",
+            "`int set(int setting, int value)`: Changes a setting. This is a change. Returns the previous value;");
         int[] first = {2, 3, 9, 3};
         for (int setting = 0; setting < 4; setting++) {
             int which = setting;
@@ -114,7 +115,9 @@ final class EdgesOfChanges {
     }
 
     private void guestOfEachPatience() {
-        edges.sentence("Promise 3", "`int guest(int patience)`: A guest comes. This is a change. - `patience`: 1 to 30 Returns the number;");
+        edges.sentence("Promise 3",
+            "`int guest(int patience)`: A guest comes. This is a change. - `patience`: 1 to 30 Returns the "
+            + "number;");
         edges.changed("guest(1)", Rooms::lived, x -> x.guest(1), 4);
         edges.changed("guest(30)", Rooms::lived, x -> x.guest(30), 4);
         edges.changed("guest(1) as first", TeaSeats::new, x -> x.guest(1), 0);
@@ -142,7 +145,8 @@ final class EdgesOfChanges {
     }
 
     private void leaveFreesASeat() {
-        edges.sentence("Promise 4", "`int leave(int guest)`: A guest leaves. This is a change. Returns the seat that is free by that;");
+        edges.sentence("Promise 4",
+            "`int leave(int guest)`: A guest leaves. This is a change. Returns the seat that is free by that;");
         // The seats 0 to 3 are those of 0, 1, 3 and 2.
         int[] seats = {0, 1, 3, 2};
         for (int gone = 0; gone < 4; gone++) {
@@ -174,8 +178,9 @@ final class EdgesOfChanges {
     }
 
     private void wordBreaksSilence() {
-        edges.sentence("Promise 5", "`int word(int guest)`: A guest says a word: the silence is 0. This is a change. "
-            + "Returns the silence that was broken;");
+        edges.sentence("Promise 5",
+            "`int word(int guest)`: A guest says a word: the silence is 0. This is a change. Returns the silence "
+            + "that was broken;");
         int[] silences = {11, 19, 3, 4};
         for (int guest = 0; guest < 4; guest++) {
             int speaking = guest;
@@ -215,8 +220,9 @@ final class EdgesOfChanges {
     }
 
     private void bowIsOneLess() {
-        edges.sentence("Promise 6", "`int bow(int guest, int other)`: A guest bows to another one: one bow less is owed. "
-            + "This is a change. Returns how many are owed to the other one yet;");
+        edges.sentence("Promise 6",
+            "`int bow(int guest, int other)`: A guest bows to another one: one bow less is owed. This is a "
+            + "change. Returns how many are owed to the other one yet;");
         // 0 owes 3 two bows, 2 owes 1 three, 3 owes 2 one; 1 has made one.
         edges.changed("bow(2, 1) of three", Rooms::lived, x -> x.bow(2, 1), 2);
         edges.changed("bow(0, 3) of two", Rooms::lived, x -> x.bow(0, 3), 1);
@@ -285,8 +291,9 @@ final class EdgesOfChanges {
     }
 
     private void offerOfACup() {
-        edges.sentence("Promise 7", "`int offer(int guest, int other)`: A guest offers another one a cup: the other one drinks it, "
-            + "which takes SIP breaths;");
+        edges.sentence("Promise 7",
+            "`int offer(int guest, int other)`: A guest offers another one a cup: the other one drinks it, which "
+            + "takes SIP breaths;");
         edges.changed("offer(0, 1)", () -> Rooms.of(30, 30), x -> x.offer(0, 1), 2);
         for (int sip : new int[] {1, 9}) {
             TeaSeats x = Rooms.of(30, 30, 2);
@@ -335,8 +342,9 @@ final class EdgesOfChanges {
     }
 
     private void offerSetsOff() {
-        edges.sentence("Promise 7", "and then bows that both owe each other are set off, one for one, until one of both owes none. "
-            + "This is a change.");
+        edges.sentence("Promise 7",
+            "and then bows that both owe each other are set off, one for one, until one of both owes none. This "
+            + "is a change.");
         // With bows that 0 owes 1, a cup for 1 sets off so many, and leaves 1 and 0 with so many.
         int[][] due = {{0, 0, 2, 0}, {1, 2, 1, 0}, {2, 4, 0, 0}, {3, 4, 0, 1}, {4, 4, 0, 2}, {5, 4, 0, 3}};
         for (int[] row : due) {
@@ -507,8 +515,12 @@ final class EdgesOfChanges {
     private void breatheBeyondTheBreaths() {
         edges.sentence("Promise 8", "NOT_POSSIBLE if there would be more than 9999 breaths.");
         for (int many : new int[] {1, 2, 98, 99}) {
-            edges.changed("breathe(" + many + ") up to 9999", () -> Rooms.late(9999 - many, 30), x -> x.breathe(many), many / 90);
-            edges.refused("breathe(" + many + ") up to 10000", () -> Rooms.late(10000 - many, 30), x -> x.breathe(many), NOT_POSSIBLE);
+            String call = "breathe(" + many + ")";
+            Supplier<TeaSeats> last = () -> Rooms.late(9999 - many, 30);
+            Supplier<TeaSeats> beyond = () -> Rooms.late(10000 - many, 30);
+            // Patience 30 sighs with silence 90.
+            edges.changed(call + " up to 9999", last, x -> x.breathe(many), many / 90);
+            edges.refused(call + " up to 10000", beyond, x -> x.breathe(many), NOT_POSSIBLE);
         }
         TeaSeats x = Rooms.late(9998, 30);
         edges.due("breathe(2)", x.breathe(2), NOT_POSSIBLE);
@@ -519,7 +531,8 @@ final class EdgesOfChanges {
     }
 
     private void roundCountsThoseWhoDrink() {
-        edges.sentence("Promise 9", "`int round()`: A round of the cup. This is a change. Returns how many guests drink;");
+        edges.sentence("Promise 9",
+            "`int round()`: A round of the cup. This is a change. Returns how many guests drink;");
         edges.changed("round() of one", () -> Rooms.of(30), x -> x.round(), 1);
         edges.changed("round() of nine", Rooms::ofNine, x -> x.round(), 9);
         // 0 and 2 would be passed by.
@@ -571,7 +584,8 @@ final class EdgesOfChanges {
     }
 
     private void seatAnewCountsThoseWhoMove() {
-        edges.sentence("Promise 10", "`int seatAnew()`: Seats all guests anew. This is a change. Returns how many get another seat.");
+        edges.sentence("Promise 10",
+            "`int seatAnew()`: Seats all guests anew. This is a change. Returns how many get another seat.");
         edges.changed("seatAnew() of none", Rooms::empty, x -> x.seatAnew(), 0);
         edges.changed("seatAnew() of one", () -> Rooms.of(5), x -> x.seatAnew(), 0);
         edges.changed("seatAnew() of nine alike", Rooms::ofNine, x -> x.seatAnew(), 0);

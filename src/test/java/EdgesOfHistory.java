@@ -58,8 +58,9 @@ final class EdgesOfHistory {
     }
 
     private void undoBringsBack() {
-        edges.sentence("Promise 26", "`int undo()`: Undoes the latest change: everything except the pad, the slots and the history is as it "
-            + "was before it.");
+        edges.sentence("Promise 26",
+            "`int undo()`: Undoes the latest change: everything except the pad, the slots and the history is as "
+            + "it was before it.");
         for (int kind = 0; kind < KINDS; kind++) {
             TeaSeats x = Rooms.lived();
             String before = View.ofRoom(x);
@@ -113,7 +114,8 @@ final class EdgesOfHistory {
     }
 
     private void whatIsRecorded() {
-        edges.sentence("Promise 26", "each method that is a change, and returns no error, records the state before it (also if nothing is "
+        edges.sentence("Promise 26",
+            "each method that is a change, and returns no error, records the state before it (also if nothing is "
             + "different then);");
         for (int kind = 0; kind < KINDS; kind++) {
             int which = kind;
@@ -268,7 +270,8 @@ final class EdgesOfHistory {
     }
 
     private void saveKeepsTheRoom() {
-        edges.sentence("Promise 27", "`int save(int slot)`: Saves everything except the pad, the history and the slots in a slot,");
+        edges.sentence("Promise 27",
+            "`int save(int slot)`: Saves everything except the pad, the history and the slots in a slot,");
         TeaSeats x = Rooms.lived();
         String room = View.ofRoom(x);
         edges.due("save(0)", x.save(0), 4);
@@ -276,11 +279,13 @@ final class EdgesOfHistory {
         edges.due("count(18) behind save()", x.count(18), 6);
         edges.due("count(17) behind save()", x.count(17), Rooms.TEXT.length());
         for (int kind = 0; kind < KINDS; kind++) {
-            change(x, kind);
-            edges.due("restore(0)", x.restore(0), 4);
-            same("the room behind change " + kind, View.ofRoom(x), room);
+            TeaSeats y = Rooms.lived();
+            y.save(0);
+            change(y, kind);
+            edges.due("restore(0)", y.restore(0), 4);
+            same("the room behind change " + kind, View.ofRoom(y), room);
+            edges.due("the pad", y.count(17), kind == 9 ? 0 : Rooms.TEXT.length());
         }
-        edges.due("the pad behind carryOut() and restore(0)", x.count(17), 0);
     }
 
     private void saveOverwrites() {
@@ -336,7 +341,8 @@ final class EdgesOfHistory {
     }
 
     private void restoreKeepsTheSlot() {
-        edges.sentence("Promise 28", "`int restore(int slot)`: Restores what was saved last in a slot, which keeps it.");
+        edges.sentence("Promise 28",
+            "`int restore(int slot)`: Restores what was saved last in a slot, which keeps it.");
         TeaSeats x = Rooms.lived();
         x.save(0);
         String room = View.ofRoom(x);

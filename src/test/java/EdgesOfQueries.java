@@ -39,8 +39,9 @@ final class EdgesOfQueries {
     }
 
     private void ofEachFact() {
-        edges.sentence("Promise 11", "`int of(int guest, int what)`: Returns something about a guest. - `what`: 0 the seat, 1 the patience, "
-            + "2 the silence, 3 cups, 4 sighs, 5 words,");
+        edges.sentence("Promise 11",
+            "`int of(int guest, int what)`: Returns something about a guest. - `what`: 0 the seat, 1 the "
+            + "patience, 2 the silence, 3 cups, 4 sighs, 5 words,");
         int[][] due = {{0, 4, 11, 2, 1, 0}, {1, 10, 19, 1, 0, 0}, {3, 2, 3, 2, 4, 0}, {2, 30, 4, 1, 0, 1}};
         for (int guest = 0; guest < due.length; guest++) {
             for (int what = 0; what < due[guest].length; what++) {
@@ -56,7 +57,8 @@ final class EdgesOfQueries {
     }
 
     private void ofCountsAllTogether() {
-        edges.sentence("Promise 11", "6 bows that are owed, 7 that others owe to the guest, all together, 8 bows made so far,");
+        edges.sentence("Promise 11",
+            "6 bows that are owed, 7 that others owe to the guest, all together, 8 bows made so far,");
         int[][] due = {{2, 0, 0}, {0, 3, 1}, {3, 1, 0}, {1, 2, 0}};
         for (int guest = 0; guest < due.length; guest++) {
             for (int what = 6; what <= 8; what++) {
@@ -130,7 +132,8 @@ final class EdgesOfQueries {
     }
 
     private void owesOneAnother() {
-        edges.sentence("Promise 12", "`int owes(int guest, int other)`: Returns how many bows a guest owes another one. Returns how many;");
+        edges.sentence("Promise 12",
+            "`int owes(int guest, int other)`: Returns how many bows a guest owes another one. Returns how many;");
         int[][] due = {{BAD_VALUE, 0, 0, 2}, {0, BAD_VALUE, 0, 0}, {0, 3, BAD_VALUE, 0}, {0, 0, 1, BAD_VALUE}};
         for (int pair = 0; pair < 16; pair++) {
             int guest = pair / 4;
@@ -191,8 +194,9 @@ final class EdgesOfQueries {
     }
 
     private void rankedFromTheNearest() {
-        edges.sentence("Promise 14", "`int ranked(int rank)`: Returns the guest with a rank, if all were seated anew now. "
-            + "- `rank`: 0 for the nearest seat Returns the guest;");
+        edges.sentence("Promise 14",
+            "`int ranked(int rank)`: Returns the guest with a rank, if all were seated anew now. - `rank`: 0 for "
+            + "the nearest seat Returns the guest;");
         int[] due = {1, 0, 3, 2};
         for (int rank = 0; rank < due.length; rank++) {
             int which = rank;
@@ -213,8 +217,9 @@ final class EdgesOfQueries {
     }
 
     private void silentForSoLong() {
-        edges.sentence("Promise 15", "`int silent(int breaths)`: Returns how many guests have a silence of some breaths, or more. "
-            + "- `breaths`: 0 or more Returns how many;");
+        edges.sentence("Promise 15",
+            "`int silent(int breaths)`: Returns how many guests have a silence of some breaths, or more. - "
+            + "`breaths`: 0 or more Returns how many;");
         // The silences are 11, 19, 3 and 4.
         int[] breaths = {0, 3, 4, 5, 11, 12, 19, 20, MAX};
         int[] due = {4, 4, 3, 2, 2, 1, 1, 0, 0};
@@ -247,7 +252,8 @@ final class EdgesOfQueries {
     }
 
     private void countOfBreathsGuestsAndRounds() {
-        edges.sentence("Promise 16", "`int count(int what)`: Returns a number. - `what`: 0 breaths so far, 1 guests, 2 rounds so far,");
+        edges.sentence("Promise 16",
+            "`int count(int what)`: Returns a number. - `what`: 0 breaths so far, 1 guests, 2 rounds so far,");
         lived(0, 19, 4, 1);
         TeaSeats x = Rooms.lived();
         for (int guest = 0; guest < 4; guest++) {
@@ -274,8 +280,9 @@ final class EdgesOfQueries {
     }
 
     private void countOfBows() {
-        edges.sentence("Promise 16", "4 bows that are owed, 5 made, 6 lost, 7 set off so far (each one of two), "
-            + "8 bows that were laid on guests so far,");
+        edges.sentence("Promise 16",
+            "4 bows that are owed, 5 made, 6 lost, 7 set off so far (each one of two), 8 bows that were laid on "
+            + "guests so far,");
         lived(4, 6, 1, 0, 0, 7);
         TeaSeats x = Rooms.lived();
         // 3 owes 0 two more then, as 0 owes 3 two: two of each are set off, each one counts.

@@ -45,7 +45,8 @@ final class EdgesOfTerms {
     }
 
     private void calls512() {
-        edges.sentence("What it is", "An object is used for at most 512 calls after it has been made; what later calls answer is free.");
+        edges.sentence("What it is",
+            "An object is used for at most 512 calls after it has been made; what later calls answer is free.");
         TeaSeats x = new TeaSeats();
         x.guest(30);
         for (int call = 2; call <= 510; call++) {
@@ -61,7 +62,8 @@ final class EdgesOfTerms {
     }
 
     private void errorCodes() {
-        edges.sentence("Terms", "A method that fails returns one of the error codes NO_SUCH (-1), BAD_VALUE (-2), BAD_TEXT (-3), "
+        edges.sentence("Terms",
+            "A method that fails returns one of the error codes NO_SUCH (-1), BAD_VALUE (-2), BAD_TEXT (-3), "
             + "TOO_MANY (-4) and NOT_POSSIBLE (-5)");
         edges.refused("at(0)", TeaSeats::new, x -> x.at(0), -1);
         edges.refused("guest(0)", TeaSeats::new, x -> x.guest(0), -2);
@@ -76,7 +78,9 @@ final class EdgesOfTerms {
     }
 
     private void errorsInOrder() {
-        edges.sentence("Terms", "it names its errors in the order in which they are checked, and the first one that applies is returned.");
+        edges.sentence("Terms",
+            "it names its errors in the order in which they are checked, and the first one that applies is "
+            + "returned.");
         Supplier<TeaSeats> late = () -> Rooms.breathed(Rooms.of(30, 30), 9999);
         edges.refused("guest(0) with nine guests", Rooms::ofNine, x -> x.guest(0), BAD_VALUE);
         edges.refused("guest(31) with nine guests", Rooms::ofNine, x -> x.guest(31), BAD_VALUE);
@@ -308,7 +312,8 @@ final class EdgesOfTerms {
     }
 
     private void numbersAreGivenAgain() {
-        edges.sentence("Settings", ", numbered in the order in which they came; a number that is free is given again, the lowest first.");
+        edges.sentence("Settings",
+            ", numbered in the order in which they came; a number that is free is given again, the lowest first.");
         TeaSeats x = new TeaSeats();
         for (int guest = 0; guest < 4; guest++) {
             edges.due("guest(5)", x.guest(5), guest);
@@ -331,8 +336,9 @@ final class EdgesOfTerms {
     }
 
     private void whatIsAtFirst() {
-        edges.sentence("Settings", "Each has a patience (1 to 30), a silence in breaths (0 at first), cups that were drunk, sighs, words, "
-            + "and bows that are owed to each other guest (0 at first).");
+        edges.sentence("Settings",
+            "Each has a patience (1 to 30), a silence in breaths (0 at first), cups that were drunk, sighs, "
+            + "words, and bows that are owed to each other guest (0 at first).");
         // All four leave who had something of everything; what comes then has nothing of it.
         TeaSeats x = Rooms.lived();
         for (int guest = 0; guest < 4; guest++) {
@@ -353,7 +359,8 @@ final class EdgesOfTerms {
     }
 
     private void seatsWithoutGaps() {
-        edges.sentence("Settings", "Each sits in a seat: seats are numbered from 0, the nearest one, on, without gaps;");
+        edges.sentence("Settings",
+            "Each sits in a seat: seats are numbered from 0, the nearest one, on, without gaps;");
         TeaSeats x = Rooms.ofNine();
         for (int guests = 9; guests >= 0; guests--) {
             int seen = 0;
@@ -441,7 +448,8 @@ final class EdgesOfTerms {
     }
 
     private void longestSilenceFirst() {
-        edges.sentence("Settings", "To seat the guests anew: the one with the longest silence gets the seat 0, and so on;");
+        edges.sentence("Settings",
+            "To seat the guests anew: the one with the longest silence gets the seat 0, and so on;");
         Supplier<TeaSeats> byOne = () -> {
             TeaSeats x = Rooms.of(30, 30);
             x.breathe(1);
@@ -559,8 +567,9 @@ final class EdgesOfTerms {
     }
 
     private void sighs() {
-        edges.sentence("Breaths", "One whose silence is LONG times the patience then, or more, sighs: the silence is the patience then, "
-            + "and that is a sigh.");
+        edges.sentence("Breaths",
+            "One whose silence is LONG times the patience then, or more, sighs: the silence is the patience "
+            + "then, and that is a sigh.");
         Supplier<TeaSeats> near = () -> Rooms.breathed(Rooms.of(4), 10);
         edges.changed("breathe(1) up to 11 of 12", near, x -> x.breathe(1), 0);
         edges.changed("breathe(2) up to 12 of 12", near, x -> x.breathe(2), 1);
@@ -608,7 +617,8 @@ final class EdgesOfTerms {
     }
 
     private void cupGoesAsGuestsSit() {
-        edges.sentence("Rounds", "In a round the cup goes from seat to seat, from 0 on, as the guests sit at its beginning.");
+        edges.sentence("Rounds",
+            "In a round the cup goes from seat to seat, from 0 on, as the guests sit at its beginning.");
         // 0 sighs in the first sip, and so has the shortest silence behind it: the cup goes to 1 and 2 as they sit.
         TeaSeats x = Rooms.breathed(Rooms.of(2, 30, 30), 4);
         edges.due("round()", x.round(), 3);
@@ -628,8 +638,9 @@ final class EdgesOfTerms {
     }
 
     private void passedBy() {
-        edges.sentence("Rounds", "A guest is passed by, the first of these being the reason: 1 the guest has drunk CUPS cups, or more; "
-            + "2 the guest owes DEBT bows, all together, or more.");
+        edges.sentence("Rounds",
+            "A guest is passed by, the first of these being the reason: 1 the guest has drunk CUPS cups, or "
+            + "more; 2 the guest owes DEBT bows, all together, or more.");
         // 0 has one cup, and owes 1 two bows.
         int[][] limits = {{2, 3, 0}, {2, 2, 2}, {2, 1, 2}, {1, 3, 1}, {1, 2, 1}, {1, 1, 1}};
         for (int[] limit : limits) {
@@ -676,8 +687,9 @@ final class EdgesOfTerms {
     }
 
     private void drinksAndOwes() {
-        edges.sentence("Rounds", "Otherwise the guest drinks a cup, which takes SIP breaths; and then owes a bow to the guest who drank "
-            + "last ahead of that in this round, if there is one.");
+        edges.sentence("Rounds",
+            "Otherwise the guest drinks a cup, which takes SIP breaths; and then owes a bow to the guest who "
+            + "drank last ahead of that in this round, if there is one.");
         TeaSeats one = Rooms.of(30);
         edges.due("round() of one", one.round(), 1);
         edges.due("bows of the only one", one.count(8), 0);

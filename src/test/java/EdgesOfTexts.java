@@ -95,8 +95,9 @@ final class EdgesOfTexts {
     }
 
     private void everyOrder() {
-        edges.sentence("Texts", "order = \"g\" number | \"x\" digit | \"w\" digit | \"b\" digit digit | \"t\" number | \"r\" | "
-            + "\"o\" digit digit ```");
+        edges.sentence("Texts",
+            "order = \"g\" number | \"x\" digit | \"w\" digit | \"b\" digit digit | \"t\" number | \"r\" | \"o\" "
+            + "digit digit ```");
         for (String letter : new String[] {"g", "t"}) {
             faultOf(letter + "5", NONE);
             faultOf(letter + "55", NONE);
@@ -130,8 +131,9 @@ final class EdgesOfTexts {
     }
 
     private void whatEachOrderDoes() {
-        edges.sentence("Texts", "\"g\": guest() with a patience; \"x\": leave(); \"w\": word() of a guest; \"b\": bow() of a guest to another one; "
-            + "\"t\": breathe(); \"r\": round(); \"o\": offer() of a guest to another one.");
+        edges.sentence("Texts",
+            "\"g\": guest() with a patience; \"x\": leave(); \"w\": word() of a guest; \"b\": bow() of a guest "
+            + "to another one; \"t\": breathe(); \"r\": round(); \"o\": offer() of a guest to another one.");
         does("g1", x -> x.guest(1));
         does("g30", x -> x.guest(30));
         does("x0", x -> x.leave(0));
@@ -200,8 +202,9 @@ final class EdgesOfTexts {
     }
 
     private void faultOfEachCharacter() {
-        edges.sentence("Texts", "The fault is the index of the first character that cannot stand at its place when the text is read from "
-            + "left to right");
+        edges.sentence("Texts",
+            "The fault is the index of the first character that cannot stand at its place when the text is read "
+            + "from left to right");
         String whole = "g5;x0;w1;b01;t99;r;o10";
         faultOf(whole, NONE);
         for (int index = 0; index < whole.length(); index++) {
@@ -229,7 +232,8 @@ final class EdgesOfTexts {
     }
 
     private void faultOfATextThatEnds() {
-        edges.sentence("Texts", "if there is none and the text ends too early (also if it is empty), it is the length of the text.");
+        edges.sentence("Texts",
+            "if there is none and the text ends too early (also if it is empty), it is the length of the text.");
         faultOf("", 0);
         String whole = "g5;x0;w1;b01;t9;r;o10";
         for (int length = 1; length <= whole.length(); length++) {
@@ -244,10 +248,13 @@ final class EdgesOfTexts {
     }
 
     private void theConstants() {
-        edges.sentence("Texts", "The constants: `NO_SUCH = -1, BAD_VALUE = -2, BAD_TEXT = -3, TOO_MANY = -4, NOT_POSSIBLE = -5, NONE = -6`: "
-            + "Error codes, and NONE: there is none.");
+        edges.sentence("Texts",
+            "The constants: `NO_SUCH = -1, BAD_VALUE = -2, BAD_TEXT = -3, TOO_MANY = -4, NOT_POSSIBLE = -5, NONE "
+            + "= -6`: Error codes, and NONE: there is none.");
         int[] due = {-1, -2, -3, -4, -5, -6};
-        int[] got = {TeaSeats.NO_SUCH, TeaSeats.BAD_VALUE, TeaSeats.BAD_TEXT, TeaSeats.TOO_MANY, TeaSeats.NOT_POSSIBLE, TeaSeats.NONE};
+        int[] got = {
+            TeaSeats.NO_SUCH, TeaSeats.BAD_VALUE, TeaSeats.BAD_TEXT, TeaSeats.TOO_MANY, TeaSeats.NOT_POSSIBLE, TeaSeats.NONE,
+        };
         for (int index = 0; index < due.length; index++) {
             edges.due("constant " + index, got[index], due[index]);
         }
@@ -278,8 +285,9 @@ final class EdgesOfTexts {
     }
 
     private void putGivesTheLowestLast() {
-        edges.sentence("Promise 22", "`int put(long characters)`: Appends characters to the pad. They are given as a number: "
-            + "its lowest 8 bits are the last character, the next 8 bits the one before, and so on;");
+        edges.sentence("Promise 22",
+            "`int put(long characters)`: Appends characters to the pad. They are given as a number: its lowest 8 "
+            + "bits are the last character, the next 8 bits the one before, and so on;");
         // 103, 53, 59, 116, 57, 59, 119 and 48 are g, 5, ;, t, 9, ;, w and 0.
         long[] numbers = {0x673BL, 0x67353B74L, 0x67353B74393B7730L};
         int[] faults = {1, 4, NONE};
@@ -310,7 +318,9 @@ final class EdgesOfTexts {
     }
 
     private void putNothingAboveTheEnd() {
-        edges.sentence("Promise 22", "8 bits that are 0 mean that there are no more characters, and everything above them has to be 0, too.");
+        edges.sentence("Promise 22",
+            "8 bits that are 0 mean that there are no more characters, and everything above them has to be 0, "
+            + "too.");
         for (int many = 1; many <= 7; many++) {
             long number = View.number("rrrrrrr".substring(0, many));
             int length = many;

@@ -34,8 +34,9 @@ final class EdgesOfWhatIfs {
     }
 
     private void nothingChanges() {
-        edges.sentence("Texts", "Ahead of the calls `why`, `seatedIn`, `ifWord`, `ifRound`, `canLead` the interface says: "
-            + "---- what if; nothing changes (the bound of breaths does not matter).");
+        edges.sentence("Texts",
+            "Ahead of the calls `why`, `seatedIn`, `ifWord`, `ifRound`, `canLead` the interface says: ---- what "
+            + "if; nothing changes (the bound of breaths does not matter).");
         // Guests who come with, or a little ahead of, the last breath answer as they would with the first one.
         for (int ahead : new int[] {0, 1, 20}) {
             Supplier<TeaSeats> early = () -> grown(0, ahead);
@@ -78,8 +79,9 @@ final class EdgesOfWhatIfs {
     }
 
     private void whyAtTheBounds() {
-        edges.sentence("Promise 17", "`int why(int guest)`: Tells why a guest would be passed by now. "
-            + "Returns the reason, 1 or 2, or 0: the guest would drink;");
+        edges.sentence("Promise 17",
+            "`int why(int guest)`: Tells why a guest would be passed by now. Returns the reason, 1 or 2, or 0: "
+            + "the guest would drink;");
         int[] due = {2, 0, 2, 0};
         for (int guest = 0; guest < 4; guest++) {
             int who = guest;
@@ -87,7 +89,9 @@ final class EdgesOfWhatIfs {
         }
         // 0 and 2 have two cups, the others one; 0 owes two bows, 1 none, 2 three and 3 one.
         int[][] limits = {{3, 3}, {3, 4}, {3, 1}, {2, 3}, {2, 4}, {1, 1}, {1, 20}, {30, 20}};
-        int[][] reasons = {{0, 0, 2, 0}, {0, 0, 0, 0}, {2, 0, 2, 2}, {1, 0, 1, 0}, {1, 0, 1, 0}, {1, 1, 1, 1}, {1, 1, 1, 1}, {0, 0, 0, 0}};
+        int[][] reasons = {
+            {0, 0, 2, 0}, {0, 0, 0, 0}, {2, 0, 2, 2}, {1, 0, 1, 0}, {1, 0, 1, 0}, {1, 1, 1, 1}, {1, 1, 1, 1}, {0, 0, 0, 0},
+        };
         for (int index = 0; index < limits.length; index++) {
             TeaSeats x = Rooms.lived();
             x.set(TeaSeats.CUPS, limits[index][0]);
@@ -111,8 +115,9 @@ final class EdgesOfWhatIfs {
     }
 
     private void seatedInNoBreath() {
-        edges.sentence("Promise 18", "`int seatedIn(int guest, int seat)`: Tells behind how many breaths, 0 or more, with no words, "
-            + "a guest would get a seat,");
+        edges.sentence("Promise 18",
+            "`int seatedIn(int guest, int seat)`: Tells behind how many breaths, 0 or more, with no words, a "
+            + "guest would get a seat,");
         Supplier<TeaSeats> one = () -> Rooms.of(5);
         edges.unchanged("seatedIn(0, 0) of one", one, x -> x.seatedIn(0, 0), 0);
         // 1 has the longer silence since the last breath, or with the next one.
@@ -214,7 +219,8 @@ final class EdgesOfWhatIfs {
     }
 
     private void ifWordAtTheBounds() {
-        edges.sentence("Promise 19", "`int ifWord(int guest)`: Tells which rank a guest would have with a word now, if all were seated "
+        edges.sentence("Promise 19",
+            "`int ifWord(int guest)`: Tells which rank a guest would have with a word now, if all were seated "
             + "anew then. Returns the rank;");
         edges.unchanged("ifWord(0) of one", () -> Rooms.of(5), x -> x.ifWord(0), 0);
         for (int guest : new int[] {0, 8}) {
@@ -251,9 +257,10 @@ final class EdgesOfWhatIfs {
     }
 
     private void ifRoundCounts() {
-        edges.sentence("Promise 20", "`int ifRound(int what)`: Tells how many guests would drink in a round now, how long it would take, "
-            + "or who would sit in the seat 0 behind it. - `what`: 0 how many drink, 1 how many breaths, 2 who sits in the seat 0 then "
-            + "Returns the number;");
+        edges.sentence("Promise 20",
+            "`int ifRound(int what)`: Tells how many guests would drink in a round now, how long it would take, "
+            + "or who would sit in the seat 0 behind it. - `what`: 0 how many drink, 1 how many breaths, 2 who "
+            + "sits in the seat 0 then Returns the number;");
         asARound(() -> Rooms.of(5), 1, 2, 0);
         asARound(Rooms::ofNine, 9, 18, 0);
         asARound(Rooms::lived, 2, 4, 1);
@@ -332,8 +339,9 @@ final class EdgesOfWhatIfs {
     }
 
     private void canLeadWithin100() {
-        edges.sentence("Promise 21", "`int canLead()`: Returns the guests who would have the rank 0 behind some number of breaths, 0 to 100, "
-            + "with no words.");
+        edges.sentence("Promise 21",
+            "`int canLead()`: Returns the guests who would have the rank 0 behind some number of breaths, 0 to "
+            + "100, with no words.");
         Supplier<TeaSeats> at100 = () -> apart(2, 28, 12, 17);
         Supplier<TeaSeats> at101 = () -> apart(2, 28, 11, 17);
         edges.due("the first breath of the rooms", firstBehind(at100, 1, 0), 100);

@@ -27,11 +27,11 @@ public final class EdgesTest {
             {"Terms", "CONVENTIONS."},
             {"Terms", "Times are told in breaths. Divisions are rounded down."},
             {"Settings", "Guests, seats"},
-            {"Texts", "Ahead of the calls `set`, `guest`, `leave`, `word`, `bow`, `offer`, `breathe`, `round`, `seatAnew` the interface "
-                + "says: ---- changes. Ahead of the calls `of`, `owes`, `at`, `ranked`, `silent`, `count` the interface says: ---- what "
-                + "there is."},
-            {"Texts", "Ahead of the calls `put`, `wipe`, `fault`, `carryOut` the interface says: ---- texts. Ahead of the calls `undo`, "
-                + "`save`, `restore` the interface says: ---- undo, saving."},
+            {"Texts", "Ahead of the calls `set`, `guest`, `leave`, `word`, `bow`, `offer`, `breathe`, `round`, `seatAnew` "
+                + "the interface says: ---- changes."},
+            {"Texts", "Ahead of the calls `of`, `owes`, `at`, `ranked`, `silent`, `count` the interface says: ---- what there is."},
+            {"Texts", "Ahead of the calls `put`, `wipe`, `fault`, `carryOut` the interface says: ---- texts."},
+            {"Texts", "Ahead of the calls `undo`, `save`, `restore` the interface says: ---- undo, saving."},
         };
         for (String[] sentence : sentences) {
             check.due(sentence[0] + " says: " + sentence[1], document.quote(sentence[0], sentence[1]) ? 1 : 0, 1);

@@ -1,6 +1,3 @@
-import java.util.ArrayList;
-import java.util.List;
-
 /** Promises 26 to 28: undo, and saved states. */
 public final class HistoryTest {
     private static final int BAD_VALUE = -2, NOT_POSSIBLE = -5;
@@ -38,19 +35,27 @@ public final class HistoryTest {
 
     private static void promise26SixStates() {
         for (int changes = 1; changes <= 20; changes++) {
-            TeaSeats x = new TeaSeats();
-            List<String> rooms = new ArrayList<>();
-            for (int change = 0; change < changes; change++) {
-                rooms.add(View.ofRoom(x));
-                makeChange(x, change);
-                CHECK.due("count(18)", x.count(18), Math.min(6, change + 1));
+            int kept = Math.min(6, changes);
+            for (int undone = 1; undone <= kept; undone++) {
+                TeaSeats x = behind(changes);
+                CHECK.due("count(18)", x.count(18), kept);
+                for (int left = kept - 1; left >= kept - undone; left--) {
+                    CHECK.due("undo() behind " + changes, x.undo(), left);
+                }
+                CHECK.same("the room", View.ofRoom(x), View.ofRoom(behind(changes - undone)));
+                if (undone == kept) {
+                    CHECK.refused(x, "undo() behind six", () -> x.undo(), NOT_POSSIBLE);
+                }
             }
-            for (int left = Math.min(6, changes) - 1; left >= 0; left--) {
-                CHECK.due("undo() behind " + changes, x.undo(), left);
-                CHECK.same("the room", View.ofRoom(x), rooms.remove(rooms.size() - 1));
-            }
-            CHECK.refused(x, "undo() behind six", () -> x.undo(), NOT_POSSIBLE);
         }
+    }
+
+    private static TeaSeats behind(int changes) {
+        TeaSeats x = new TeaSeats();
+        for (int change = 0; change < changes; change++) {
+            makeChange(x, change);
+        }
+        return x;
     }
 
     private static void makeChange(TeaSeats x, int change) {

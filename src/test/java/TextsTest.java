@@ -63,13 +63,14 @@ public final class TextsTest {
         CHECK.refused(x, "put with a bit above", () -> x.put(1L << 63 | 'r'), BAD_VALUE);
         CHECK.refused(x, "put with a bit high above", () -> x.put(1L << 17 | 'r'), BAD_VALUE);
         for (int code : new int[] {1, 9, 31, 32, 127, 128, 200, 255}) {
+            TeaSeats y = new TeaSeats();
             for (int place = 0; place < 8; place++) {
                 char[] text = "rrrrrrrr".toCharArray();
                 text[place] = (char) code;
                 String call = "put with " + code + " at " + place;
-                CHECK.refused(x, call, () -> x.put(View.number(new String(text))), BAD_VALUE);
+                CHECK.refused(y, call, () -> y.put(View.number(new String(text))), BAD_VALUE);
             }
-            CHECK.refused(x, "put(" + code + ")", () -> x.put(code), BAD_VALUE);
+            CHECK.refused(y, "put(" + code + ")", () -> y.put(code), BAD_VALUE);
         }
     }
 

@@ -9,6 +9,7 @@ final class View {
 
     /** Without the pad and the history, which undo, save and restore leave as they are. */
     static String ofRoom(TeaSeats seats) {
+        int here = seats.count(11);
         StringBuilder text = new StringBuilder("counts");
         for (int what = 0; what <= 16; what++) {
             text.append(' ').append(seats.count(what));
@@ -22,14 +23,17 @@ final class View {
             text.append(' ').append(seats.ranked(rank));
         }
         text.append('\n');
+        // An object is used for 512 calls: so of those who are not there no more is asked than that.
         for (int guest = 0; guest < 9; guest++) {
-            text.append("guest ").append(guest).append(':');
-            for (int what = 0; what <= 9; what++) {
-                text.append(' ').append(seats.of(guest, what));
-            }
-            text.append(" owes");
-            for (int other = 0; other < 9; other++) {
-                text.append(' ').append(seats.owes(guest, other));
+            text.append("guest ").append(guest).append(": ").append(seats.of(guest, 0));
+            if ((here >> guest & 1) != 0) {
+                for (int what = 1; what <= 9; what++) {
+                    text.append(' ').append(seats.of(guest, what));
+                }
+                text.append(" owes");
+                for (int other = 0; other < 9; other++) {
+                    text.append(' ').append(seats.owes(guest, other));
+                }
             }
             text.append('\n');
         }

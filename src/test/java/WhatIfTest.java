@@ -1,3 +1,5 @@
+import java.util.function.Supplier;
+
 /** Promises 17 to 21: what if; nothing changes. */
 public final class WhatIfTest {
     private static final int NO_SUCH = -1, BAD_VALUE = -2, NOT_POSSIBLE = -5, NONE = -6;
@@ -78,10 +80,10 @@ public final class WhatIfTest {
 
     private static void promise18Bound() {
         TeaSeats near = apart(4, 25, 25, 9);
-        CHECK.due("breaths to the first lead", firstLeadOfOne(near, 310), 300);
+        CHECK.due("breaths to the first lead", firstLeadOfOne(() -> apart(4, 25, 25, 9), 310), 300);
         CHECK.refused(near, "seatedIn(1, 0) at the bound", () -> near.seatedIn(1, 0), 300);
         TeaSeats far = apart(4, 25, 24, 9);
-        CHECK.due("breaths to the first lead", firstLeadOfOne(far, 310), 301);
+        CHECK.due("breaths to the first lead", firstLeadOfOne(() -> apart(4, 25, 24, 9), 310), 301);
         CHECK.refused(far, "seatedIn(1, 0) beyond the bound", () -> far.seatedIn(1, 0), NONE);
     }
 
@@ -95,16 +97,15 @@ public final class WhatIfTest {
         return x;
     }
 
-    /** Behind how many breaths guest 1 has the longest silence, tried on the object itself; NONE beyond a bound. */
-    private static int firstLeadOfOne(TeaSeats x, int bound) {
-        x.save(0);
-        int lead = NONE;
-        for (int breaths = 0; breaths <= bound && lead == NONE; breaths++) {
-            lead = x.of(1, 2) > x.of(0, 2) ? breaths : NONE;
-            x.breathe(1);
+    /** Behind how many breaths guest 1 has the longest silence, tried in rooms of their own; NONE beyond a bound. */
+    private static int firstLeadOfOne(Supplier<TeaSeats> room, int bound) {
+        for (int breaths = 0; breaths <= bound; breaths++) {
+            TeaSeats x = Rooms.breathed(room.get(), breaths);
+            if (x.of(1, 2) > x.of(0, 2)) {
+                return breaths;
+            }
         }
-        x.restore(0);
-        return lead;
+        return NONE;
     }
 
     private static void promise18SeatedInIsRefused() {
@@ -197,10 +198,10 @@ public final class WhatIfTest {
 
     private static void promise21Bound() {
         TeaSeats near = apart(2, 28, 12, 17);
-        CHECK.due("breaths to the first lead", firstLeadOfOne(near, 110), 100);
+        CHECK.due("breaths to the first lead", firstLeadOfOne(() -> apart(2, 28, 12, 17), 110), 100);
         CHECK.refused(near, "canLead() at the bound", () -> near.canLead(), 3);
         TeaSeats far = apart(2, 28, 11, 17);
-        CHECK.due("breaths to the first lead", firstLeadOfOne(far, 110), 101);
+        CHECK.due("breaths to the first lead", firstLeadOfOne(() -> apart(2, 28, 11, 17), 110), 101);
         CHECK.refused(far, "canLead() beyond the bound", () -> far.canLead(), 1);
     }
 
