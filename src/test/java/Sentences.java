@@ -27,7 +27,7 @@ final class Sentences {
 
     /** Marks words of a section as quoted, and tells whether they stand there. */
     boolean quote(String section, String words) {
-        String text = sections.getOrDefault(section, "");
+        String text = text(section);
         int start = text.indexOf(words);
         boolean found = start >= 0;
         while (start >= 0) {
@@ -42,7 +42,7 @@ final class Sentences {
     /** All words of a section that nobody has quoted. */
     List<String> unquoted(String section) {
         List<String> found = new ArrayList<>();
-        String text = sections.getOrDefault(section, "");
+        String text = text(section);
         StringBuilder words = new StringBuilder();
         for (int index = 0; index <= text.length(); index++) {
             if (index < text.length() && !quoted.get(section)[index]) {
@@ -55,6 +55,11 @@ final class Sentences {
             }
         }
         return found;
+    }
+
+    /** All words of a section, in one line; none if there is no such section. */
+    String text(String section) {
+        return sections.getOrDefault(section, "");
     }
 
     boolean has(String section) {
